@@ -15,6 +15,18 @@ final class Checks {
         due(what, 1, itDoes ? 1 : 0);
     }
 
+    /** The answer of a call that came to a fault, and fault() right after it. */
+    void fault(TributePitches x, String call, int fault, int answer) {
+        due(call, -10 - fault, answer);
+        due(call + ": fault()", fault, x.fault());
+    }
+
+    /** A SHEET with a row of these cells. */
+    static void row(TributePitches x, int k, int lane, int... cells) {
+        x.sheet(k, lane, cells.length);
+        for (int i = 0; i < cells.length; i++) x.put(k, i, cells[i]);
+    }
+
     /** To be called last: a wrong answer ends the program with exit code 1. */
     void close() {
         System.out.println(right + " answers are as due, " + wrong + " are not");

@@ -97,7 +97,7 @@ public final class FaceTest {
     private static void sourceHasNoneOfTheWords() throws Exception {
         String source = Files.readString(Path.of("src/main/java/TributePitches.java"));
         String code = source.replaceAll("(?s)/\\*.*?\\*/", "").replaceAll("//[^\n]*", "");
-        String words = "throw|throws|try|catch|finally|synchronized|assert|package|protected|native|volatile|var|new Object";
+        String words = "throw|throws|try|catch|finally|synchronized|assert|package|protected|native|volatile|var";
         Matcher word = Pattern.compile("\\b(" + words + ")\\b|->|::|Exact\\(|@").matcher(code);
         c.holds("no word of those left out", !word.find());
         Matcher line = Pattern.compile("\\bimport ([^;]*);").matcher(code);

@@ -195,7 +195,7 @@ public final class LodeTest {
 
     private static void chartFindsAllAtOnce() {
         TributePitches x = new TributePitches();
-        row(x, 0, 2, 7, 200, 300, -1, 0, 1000);
+        Checks.row(x, 0, 2, 7, 200, 300, -1, 0, 1000);
         c.due("chart", 4, x.chart(0, 2, 1, 5, 6));
         span(x, 5, 0, 0, 1000);
         span(x, 6, 0, 200, 200);
@@ -209,7 +209,7 @@ public final class LodeTest {
         // The second cell alone breaks the law; the first one must then not be FOUND either.
         TributePitches z = new TributePitches();
         z.rise(10);
-        row(z, 1, 1, 500, 511);
+        Checks.row(z, 1, 1, 500, 511);
         c.due("chart beyond the law", TributePitches.STATE, z.chart(1, 1, 0, 2, 0));
         span(z, 0, 0, 0, 1000);
         c.due("chart beyond the law is no fault", 0, z.fault());
@@ -231,7 +231,7 @@ public final class LodeTest {
 
     private static void chartRefuses() {
         TributePitches x = new TributePitches();
-        row(x, 0, 1, 1000, 1001, -1);
+        Checks.row(x, 0, 1, 1000, 1001, -1);
         for (int k : new int[] {-1, 4, MIN, MAX}) {
             c.due("chart of no sheet", TributePitches.UNKNOWN, x.chart(k, 1, 0, 1, 0));
         }
@@ -257,16 +257,16 @@ public final class LodeTest {
 
     private static void chartFaults() {
         TributePitches x = new TributePitches();
-        row(x, 0, 0, 1, 2, 3);
-        fault(x, "chart of another lane", 2, x.chart(0, 1, 0, 1, 0));
-        fault(x, "chart of another lane", 2, x.chart(0, 2, 0, 1, 0));
-        for (int lane = 0; lane < 3; lane++) fault(x, "chart of nothing", 1, x.chart(1, lane, 0, 1, 0));
-        fault(x, "chart of a size below 0", 4, x.chart(0, 0, 0, -1, 0));
-        fault(x, "chart of a size below 0", 4, x.chart(0, 0, MIN, MIN, 0));
+        Checks.row(x, 0, 0, 1, 2, 3);
+        c.fault(x, "chart of another lane", 2, x.chart(0, 1, 0, 1, 0));
+        c.fault(x, "chart of another lane", 2, x.chart(0, 2, 0, 1, 0));
+        for (int lane = 0; lane < 3; lane++) c.fault(x, "chart of nothing", 1, x.chart(1, lane, 0, 1, 0));
+        c.fault(x, "chart of a size below 0", 4, x.chart(0, 0, 0, -1, 0));
+        c.fault(x, "chart of a size below 0", 4, x.chart(0, 0, MIN, MIN, 0));
         int[][] cells = {{-1, 1}, {3, 1}, {0, 4}, {1, 3}, {MAX, 1}, {MAX, MAX}, {MIN, 1}, {1, MAX}, {-1, 2}};
-        for (int[] in : cells) fault(x, "chart of cells that are not", 3, x.chart(0, 0, in[0], in[1], 0));
-        fault(x, "chart of squares that are not", 3, x.chart(0, 0, 0, 3, 46));
-        fault(x, "chart of squares that are not", 3, x.chart(0, 0, 0, 2, 47));
+        for (int[] in : cells) c.fault(x, "chart of cells that are not", 3, x.chart(0, 0, in[0], in[1], 0));
+        c.fault(x, "chart of squares that are not", 3, x.chart(0, 0, 0, 3, 46));
+        c.fault(x, "chart of squares that are not", 3, x.chart(0, 0, 0, 2, 47));
         span(x, 6, 5, 0, 1000);
         c.due("chart up to the last cell and square", 3, x.chart(0, 0, 0, 3, 45));
         c.due("no fault then", 0, x.fault());
@@ -281,32 +281,22 @@ public final class LodeTest {
         c.due("chart of no cells at the end", 0, x.chart(1, 0, 2, 0, 47));
         c.due("no cells are none that are not", 0, x.chart(1, 0, -1, 0, 0));
         c.due("no cells are none that are not", 0, x.chart(1, 0, MAX, 0, 0));
-        fault(x, "chart of no cells of nothing", 1, x.chart(2, 0, 0, 0, 0));
-        fault(x, "chart of a cell of an empty row", 3, x.chart(0, 0, 0, 1, 0));
+        c.fault(x, "chart of no cells of nothing", 1, x.chart(2, 0, 0, 0, 0));
+        c.fault(x, "chart of a cell of an empty row", 3, x.chart(0, 0, 0, 1, 0));
     }
 
     private static void chartTellsInOrder() {
         TributePitches x = new TributePitches();
-        row(x, 0, 2, 5000, 2);
+        Checks.row(x, 0, 2, 5000, 2);
         c.due("unknown ahead of outside", TributePitches.UNKNOWN, x.chart(4, 3, -1, -1, 0));
         c.due("unknown square ahead of outside", TributePitches.UNKNOWN, x.chart(0, 3, -1, -1, 48));
         c.due("outside ahead of cast", TributePitches.OUTSIDE, x.chart(0, 3, -1, -1, 0));
-        fault(x, "cast ahead of size", 2, x.chart(0, 0, -1, -1, 0));
-        fault(x, "null ahead of size", 1, x.chart(1, 0, -1, -1, 0));
-        fault(x, "size ahead of index", 4, x.chart(0, 2, -1, -1, 0));
-        fault(x, "index of cells ahead of outside", 3, x.chart(0, 2, 0, 3, 0));
-        fault(x, "index of squares ahead of outside", 3, x.chart(0, 2, 0, 2, 47));
+        c.fault(x, "cast ahead of size", 2, x.chart(0, 0, -1, -1, 0));
+        c.fault(x, "null ahead of size", 1, x.chart(1, 0, -1, -1, 0));
+        c.fault(x, "size ahead of index", 4, x.chart(0, 2, -1, -1, 0));
+        c.fault(x, "index of cells ahead of outside", 3, x.chart(0, 2, 0, 3, 0));
+        c.fault(x, "index of squares ahead of outside", 3, x.chart(0, 2, 0, 2, 47));
         c.due("outside last", TributePitches.OUTSIDE, x.chart(0, 2, 0, 2, 0));
-    }
-
-    private static void row(TributePitches x, int k, int lane, int... cells) {
-        x.sheet(k, lane, cells.length);
-        for (int i = 0; i < cells.length; i++) x.put(k, i, cells[i]);
-    }
-
-    private static void fault(TributePitches x, String call, int fault, int answer) {
-        c.due(call, -10 - fault, answer);
-        c.due(call + ": fault()", fault, x.fault());
     }
 
     private static void span(TributePitches x, int i, int y, int low, int high) {

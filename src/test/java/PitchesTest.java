@@ -75,6 +75,8 @@ public final class PitchesTest {
         c.due("a thirteenth pitch on another", TributePitches.STATE, x.pitch(3, 1, 3, 1, 1));
         c.due("a thirteenth pitch outside", TributePitches.OUTSIDE, x.pitch(7, 5, 7, 5, 0));
         c.due("told pitches", 12, x.told(0));
+        c.due("about a thirteenth pitch", TributePitches.UNKNOWN, x.about(12, 0));
+        c.due("auction of a thirteenth pitch", TributePitches.UNKNOWN, x.auction(12, 1));
     }
 
     private static void foretoldIsTonsTimesTheSum() {
@@ -114,6 +116,7 @@ public final class PitchesTest {
         for (int g = 0; g < 8; g++) c.due("gang " + g, g, x.gang(g % 3));
         c.due("a ninth gang", TributePitches.FULL, x.gang(0));
         c.due("a ninth gang outside", TributePitches.OUTSIDE, x.gang(3));
+        c.due("debt of a ninth gang", TributePitches.LOST, x.debt(8));
         c.due("told gangs", 8, x.told(1));
     }
 
@@ -301,6 +304,8 @@ public final class PitchesTest {
             x.settle(t);
         }
         c.due("told takes", 40, x.told(2));
+        c.due("taken of a forty-first", TributePitches.UNKNOWN, x.taken(40, 0));
+        c.due("settle a forty-first", TributePitches.LOST, x.settle(40));
         c.due("takes of the pitch", 40, x.about(0, 6));
         x.auction(0, 240);
         c.due("strike with no bid and no room", TributePitches.NONE, x.strike());

@@ -53,9 +53,9 @@ public final class SheetsTest {
             c.due("no lane, size", TributePitches.OUTSIDE, x.sheet(0, lane, -1));
         }
         for (int n : new int[] {49, MAX}) c.due("too long", TributePitches.OUTSIDE, x.sheet(0, 0, n));
-        for (int n : new int[] {-1, MIN}) fault(x, "a length below 0", 4, x.sheet(0, 0, n));
+        for (int n : new int[] {-1, MIN}) c.fault(x, "a length below 0", 4, x.sheet(0, 0, n));
         c.due("the row stays", 7, x.cell(0, 1, 1));
-        fault(x, "a length below 0", 4, x.sheet(3, 0, -1));
+        c.fault(x, "a length below 0", 4, x.sheet(3, 0, -1));
         c.due("still nothing", 0, x.lose(3));
     }
 
@@ -68,7 +68,7 @@ public final class SheetsTest {
         for (int k = 0; k < 4; k++) {
             c.due("lose", 1, x.lose(k));
             c.due("lose again", 0, x.lose(k));
-            fault(x, "put on nothing", 1, x.put(k, 0, 1));
+            c.fault(x, "put on nothing", 1, x.put(k, 0, 1));
         }
         for (int k : new int[] {-1, 4, MIN, MAX}) c.due("lose no sheet", TributePitches.UNKNOWN, x.lose(k));
         x.sheet(1, 2, 2);
@@ -95,8 +95,8 @@ public final class SheetsTest {
         TributePitches x = new TributePitches();
         x.sheet(0, 2, 3);
         for (int k : new int[] {-1, 4, MIN, MAX}) c.due("put on no sheet", TributePitches.UNKNOWN, x.put(k, 0, 1));
-        for (int i : new int[] {-1, 3, 47, 48, MIN, MAX}) fault(x, "put on no cell", 3, x.put(0, i, 1));
-        for (int i : new int[] {-1, 0, 3}) fault(x, "put on nothing", 1, x.put(1, i, 1));
+        for (int i : new int[] {-1, 3, 47, 48, MIN, MAX}) c.fault(x, "put on no cell", 3, x.put(0, i, 1));
+        for (int i : new int[] {-1, 0, 3}) c.fault(x, "put on nothing", 1, x.put(1, i, 1));
         for (int i = 0; i < 3; i++) c.due("as it was", 0, x.cell(0, i, 2));
         c.due("put on the last", 1, x.put(0, 2, 1));
         c.due("no fault then", 0, x.fault());
@@ -133,8 +133,8 @@ public final class SheetsTest {
 
     private static void copyCopies() {
         TributePitches x = new TributePitches();
-        row(x, 0, 1, 1, 2, 3, 4);
-        row(x, 1, 1, 10, 20, 30);
+        Checks.row(x, 0, 1, 1, 2, 3, 4);
+        Checks.row(x, 1, 1, 10, 20, 30);
         c.due("copy", 2, x.copy(0, 1, 1, 0, 2));
         cells(x, 1, 1, 2, 3, 30);
         cells(x, 0, 1, 1, 2, 3, 4);
@@ -155,7 +155,7 @@ public final class SheetsTest {
 
     private static void copyWithinOneSheet() {
         TributePitches x = new TributePitches();
-        row(x, 0, 0, 1, 2, 3, 4, 5);
+        Checks.row(x, 0, 0, 1, 2, 3, 4, 5);
         c.due("copy ahead", 4, x.copy(0, 0, 0, 1, 4));
         cells(x, 0, 0, 1, 1, 2, 3, 4);
         c.due("copy back", 4, x.copy(0, 1, 0, 0, 4));
@@ -166,23 +166,23 @@ public final class SheetsTest {
 
     private static void copyRefuses() {
         TributePitches x = new TributePitches();
-        row(x, 0, 1, 1, 2, 3);
-        row(x, 1, 1, 7, 8);
-        row(x, 2, 0, 9);
+        Checks.row(x, 0, 1, 1, 2, 3);
+        Checks.row(x, 1, 1, 7, 8);
+        Checks.row(x, 2, 0, 9);
         for (int k : new int[] {-1, 4, MIN, MAX}) {
             c.due("copy of no sheet", TributePitches.UNKNOWN, x.copy(k, 0, 0, 0, 1));
             c.due("copy to no sheet", TributePitches.UNKNOWN, x.copy(0, 0, k, 0, 1));
         }
-        fault(x, "copy of nothing", 1, x.copy(3, 0, 0, 0, 1));
-        fault(x, "copy to nothing", 1, x.copy(0, 0, 3, 0, 1));
-        fault(x, "copy of nothing to itself", 1, x.copy(3, 0, 3, 0, 0));
-        fault(x, "copy to another lane", 2, x.copy(0, 0, 2, 0, 1));
-        fault(x, "copy of another lane", 2, x.copy(2, 0, 0, 0, 1));
-        fault(x, "copy of none to another lane", 2, x.copy(0, 0, 2, 0, 0));
+        c.fault(x, "copy of nothing", 1, x.copy(3, 0, 0, 0, 1));
+        c.fault(x, "copy to nothing", 1, x.copy(0, 0, 3, 0, 1));
+        c.fault(x, "copy of nothing to itself", 1, x.copy(3, 0, 3, 0, 0));
+        c.fault(x, "copy to another lane", 2, x.copy(0, 0, 2, 0, 1));
+        c.fault(x, "copy of another lane", 2, x.copy(2, 0, 0, 0, 1));
+        c.fault(x, "copy of none to another lane", 2, x.copy(0, 0, 2, 0, 0));
         int[][] beyond = {{-1, 0, 1}, {0, -1, 1}, {0, 0, -1}, {2, 0, 2}, {0, 1, 2}, {0, 0, 3}, {4, 0, 0}, {0, 3, 0},
             {-1, 0, 0}, {0, -1, 0}, {MAX, 0, MAX}, {0, MAX, MAX}, {1, 1, MAX}, {MIN, MIN, MIN}, {MAX, MAX, 1},
             {3, 0, 1}, {0, 2, 1}, {1, 1, -1}};
-        for (int[] b : beyond) fault(x, "copy beyond", 3, x.copy(0, b[0], 1, b[1], b[2]));
+        for (int[] b : beyond) c.fault(x, "copy beyond", 3, x.copy(0, b[0], 1, b[1], b[2]));
         cells(x, 0, 1, 1, 2, 3);
         cells(x, 1, 1, 7, 8);
         cells(x, 2, 0, 9);
@@ -190,26 +190,16 @@ public final class SheetsTest {
 
     private static void copyTellsInOrder() {
         TributePitches x = new TributePitches();
-        row(x, 0, 1, 1);
-        row(x, 1, 2, 1);
+        Checks.row(x, 0, 1, 1);
+        Checks.row(x, 1, 2, 1);
         c.due("unknown ahead of null", TributePitches.UNKNOWN, x.copy(3, 0, 4, 0, 0));
         c.due("unknown is no fault", 0, x.fault());
-        fault(x, "null ahead of index", 1, x.copy(0, -1, 3, 0, 0));
-        fault(x, "cast ahead of index", 2, x.copy(0, -1, 1, 0, 0));
-    }
-
-    private static void row(TributePitches x, int k, int lane, int... cells) {
-        x.sheet(k, lane, cells.length);
-        for (int i = 0; i < cells.length; i++) x.put(k, i, cells[i]);
+        c.fault(x, "null ahead of index", 1, x.copy(0, -1, 3, 0, 0));
+        c.fault(x, "cast ahead of index", 2, x.copy(0, -1, 1, 0, 0));
     }
 
     private static void cells(TributePitches x, int k, int lane, int... want) {
         for (int i = 0; i < want.length; i++) c.due("cell " + i + " of " + k, want[i], x.cell(k, i, lane));
-    }
-
-    private static void fault(TributePitches x, String call, int fault, int answer) {
-        c.due(call, -10 - fault, answer);
-        c.due(call + ": fault()", fault, x.fault());
     }
 
     private static void lost(TributePitches x, String call, int fault, long answer) {

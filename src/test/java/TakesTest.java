@@ -339,6 +339,10 @@ public final class TakesTest {
         c.due("suspect 1", 2, x.suspect(1));
         c.due("suspect 2", 4, x.suspect(2));
         for (int i : new int[] {-1, 3, MIN, MAX}) c.due("no suspect", TributePitches.UNKNOWN, x.suspect(i));
+        x.find(0, 0, 0, 0);
+        x.parcel(0, 1, 1);
+        c.due("of a pitch that is worth nothing, all but the worthless", 6, x.suspects());
+        c.due("the last suspect", 6, x.suspect(5));
     }
 
     private static void skillIsAFraction() {
