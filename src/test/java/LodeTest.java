@@ -195,7 +195,7 @@ public final class LodeTest {
 
     private static void chartFindsAllAtOnce() {
         TributePitches x = new TributePitches();
-        Checks.row(x, 0, 2, 7, 200, 300, -1, 0, 1000);
+        Mines.row(x, 0, 2, 7, 200, 300, -1, 0, 1000);
         c.due("chart", 4, x.chart(0, 2, 1, 5, 6));
         span(x, 5, 0, 0, 1000);
         span(x, 6, 0, 200, 200);
@@ -209,7 +209,7 @@ public final class LodeTest {
         // The second cell alone breaks the law; the first one must then not be FOUND either.
         TributePitches z = new TributePitches();
         z.rise(10);
-        Checks.row(z, 1, 1, 500, 511);
+        Mines.row(z, 1, 1, 500, 511);
         c.due("chart beyond the law", TributePitches.STATE, z.chart(1, 1, 0, 2, 0));
         span(z, 0, 0, 0, 1000);
         c.due("chart beyond the law is no fault", 0, z.fault());
@@ -231,7 +231,7 @@ public final class LodeTest {
 
     private static void chartRefuses() {
         TributePitches x = new TributePitches();
-        Checks.row(x, 0, 1, 1000, 1001, -1);
+        Mines.row(x, 0, 1, 1000, 1001, -1);
         for (int k : new int[] {-1, 4, MIN, MAX}) {
             c.due("chart of no sheet", TributePitches.UNKNOWN, x.chart(k, 1, 0, 1, 0));
         }
@@ -257,7 +257,7 @@ public final class LodeTest {
 
     private static void chartFaults() {
         TributePitches x = new TributePitches();
-        Checks.row(x, 0, 0, 1, 2, 3);
+        Mines.row(x, 0, 0, 1, 2, 3);
         c.fault(x, "chart of another lane", 2, x.chart(0, 1, 0, 1, 0));
         c.fault(x, "chart of another lane", 2, x.chart(0, 2, 0, 1, 0));
         for (int lane = 0; lane < 3; lane++) c.fault(x, "chart of nothing", 1, x.chart(1, lane, 0, 1, 0));
@@ -287,7 +287,7 @@ public final class LodeTest {
 
     private static void chartTellsInOrder() {
         TributePitches x = new TributePitches();
-        Checks.row(x, 0, 2, 5000, 2);
+        Mines.row(x, 0, 2, 5000, 2);
         c.due("unknown ahead of outside", TributePitches.UNKNOWN, x.chart(4, 3, -1, -1, 0));
         c.due("unknown square ahead of outside", TributePitches.UNKNOWN, x.chart(0, 3, -1, -1, 48));
         c.due("outside ahead of cast", TributePitches.OUTSIDE, x.chart(0, 3, -1, -1, 0));

@@ -133,8 +133,8 @@ public final class SheetsTest {
 
     private static void copyCopies() {
         TributePitches x = new TributePitches();
-        Checks.row(x, 0, 1, 1, 2, 3, 4);
-        Checks.row(x, 1, 1, 10, 20, 30);
+        Mines.row(x, 0, 1, 1, 2, 3, 4);
+        Mines.row(x, 1, 1, 10, 20, 30);
         c.due("copy", 2, x.copy(0, 1, 1, 0, 2));
         cells(x, 1, 1, 2, 3, 30);
         cells(x, 0, 1, 1, 2, 3, 4);
@@ -155,7 +155,7 @@ public final class SheetsTest {
 
     private static void copyWithinOneSheet() {
         TributePitches x = new TributePitches();
-        Checks.row(x, 0, 0, 1, 2, 3, 4, 5);
+        Mines.row(x, 0, 0, 1, 2, 3, 4, 5);
         c.due("copy ahead", 4, x.copy(0, 0, 0, 1, 4));
         cells(x, 0, 0, 1, 1, 2, 3, 4);
         c.due("copy back", 4, x.copy(0, 1, 0, 0, 4));
@@ -166,9 +166,9 @@ public final class SheetsTest {
 
     private static void copyRefuses() {
         TributePitches x = new TributePitches();
-        Checks.row(x, 0, 1, 1, 2, 3);
-        Checks.row(x, 1, 1, 7, 8);
-        Checks.row(x, 2, 0, 9);
+        Mines.row(x, 0, 1, 1, 2, 3);
+        Mines.row(x, 1, 1, 7, 8);
+        Mines.row(x, 2, 0, 9);
         for (int k : new int[] {-1, 4, MIN, MAX}) {
             c.due("copy of no sheet", TributePitches.UNKNOWN, x.copy(k, 0, 0, 0, 1));
             c.due("copy to no sheet", TributePitches.UNKNOWN, x.copy(0, 0, k, 0, 1));
@@ -190,8 +190,8 @@ public final class SheetsTest {
 
     private static void copyTellsInOrder() {
         TributePitches x = new TributePitches();
-        Checks.row(x, 0, 1, 1);
-        Checks.row(x, 1, 2, 1);
+        Mines.row(x, 0, 1, 1);
+        Mines.row(x, 1, 2, 1);
         c.due("unknown ahead of null", TributePitches.UNKNOWN, x.copy(3, 0, 4, 0, 0));
         c.due("unknown is no fault", 0, x.fault());
         c.fault(x, "null ahead of index", 1, x.copy(0, -1, 3, 0, 0));
