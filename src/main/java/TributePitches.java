@@ -5,7 +5,7 @@ import java.util.Arrays;
  * and the sheets that findings are written on.
  *
  * <p>A call that cannot be done answers a refusal (UNKNOWN, OUTSIDE, STATE, FULL, or LOST where a long is
- * answered) or a fault (-10 less its number), and changes nothing.
+ * answered) or a fault (-10 less its number), and changes nothing but what fault() tells.
  */
 public final class TributePitches {
     public static final int UNKNOWN = -1, OUTSIDE = -2, STATE = -3, FULL = -4, NONE = -9;
